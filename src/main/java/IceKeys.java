@@ -57,9 +57,10 @@ public final class IceKeys {
         kinds[3] = new Third();
         kinds[4] = new Salt();
         kinds[5] = new Spare();
-        fort = new Fort(kinds);
+        Fort first = new Fort(kinds);
+        fort = first;
         kept = new Fort(kinds);
-        plans = new Plans(fort);
+        plans = new Plans(first);
         reader = new Reader();
         deed = new Deed();
         for (int i = 0; i < PLACES; i++) {
@@ -82,7 +83,6 @@ public final class IceKeys {
         fort.teeth[k] = teeth;
         fort.straw[k] = straw;
         fort.gate[k] = gate;
-        fort.setTurned(k, false);
         fort.count = k + 1;
         return k;
     }
@@ -334,7 +334,7 @@ public final class IceKeys {
         for (int k = 0; k < fort.count; k++) {
             int bunch = fort.bunchOf(k);
             // a BUNCH is counted at its least KEY
-            if (bunch != 0 && Integer.numberOfTrailingZeros(bunch) == k) {
+            if (bunch != 0 && leastOf(bunch) == k) {
                 count++;
             }
         }
@@ -383,7 +383,7 @@ public final class IceKeys {
             return BAD;
         }
         int barred = keys & ~plans.reach(0, n);
-        return barred == 0 ? NONE : Integer.numberOfTrailingZeros(barred);
+        return barred == 0 ? NONE : leastOf(barred);
     }
 
     // ---- a game, strangers, lots
@@ -454,7 +454,7 @@ public final class IceKeys {
                 return NONE;
             }
             if (Integer.bitCount(misfits) == 1) {
-                least = Math.min(least, Integer.numberOfTrailingZeros(misfits));
+                least = Math.min(least, leastOf(misfits));
             }
         }
         return least < REPORTS ? least : NONE;
@@ -792,6 +792,11 @@ public final class IceKeys {
 
     private boolean isItem(int sheet, int i) {
         return isIn(i, 0, sheetSize[sheet] - 1);
+    }
+
+    /** The least number of a set that isn't empty: as many as there are bits below its lowest. */
+    private static int leastOf(int set) {
+        return Integer.bitCount((set & -set) - 1);
     }
 
     /** Whether a KIND is another one or under it; none is more than two under the KIND of all. */

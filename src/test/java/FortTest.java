@@ -140,6 +140,10 @@ public final class FortTest {
         due("3: straw and one other", x.keyOf(0, 5), 0);
         x.sun(0, 4);
         due("3: 0 at least", x.keyOf(0, 5), 0);
+        x.sun(0, 8);
+        x.change(0, 4, 0);
+        x.remake(1, 4);
+        due("3: the first is one of the others", x.keyOf(1, 5), 3);
     }
 
     private static void shapes() {

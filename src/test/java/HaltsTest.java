@@ -115,6 +115,11 @@ public final class HaltsTest {
         due("14: turned", x.state(4), 6);
         due("14: then none", x.halt(), 2);
         x.anew();
+        x.sun(0, 2);
+        Check.tell(x, "key chill;");
+        due("14: none is chilled in the rest", x.halt(), 0);
+        due("14: teeth stay", x.keyOf(0, 1), 20);
+        x.anew();
         Check.tell(x, "key if number = 1 carry;");
         due("14: whose will is another isn't told", x.halt(), 10);
         due("14: turned", x.state(4), 4);
@@ -308,6 +313,20 @@ public final class HaltsTest {
         due("22: 0, 4, 5, 1", chain.bunches(1), 51);
         due("22: 0, 4, 5, 1", chain.bunches(0), 51);
         due("22: three", chain.bunches(-1), 3);
+        // a chain down from the last KEY to the first
+        IceKeys down = new IceKeys();
+        int[] downTeeth = {12, 24, 24, 36, 36, 48};
+        for (int k = 0; k < 6; k++) {
+            down.key(4, downTeeth[k], 0, k / 2);
+        }
+        for (int k = 0; k < 6; k++) {
+            due("22: all hang together", down.bunches(k), 63);
+        }
+        due("22: one", down.bunches(-1), 1);
+        down.change(2, 4, 1);
+        due("22: two", down.bunches(-1), 2);
+        due("22: the upper ones", down.bunches(5), 56);
+        due("22: the lower ones", down.bunches(0), 3);
         for (int k = 0; k < 6; k++) {
             chain.change(k, 4, 1);
         }

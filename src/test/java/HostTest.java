@@ -42,8 +42,10 @@ public final class HostTest {
         due("41: empty", x.sheet(3, 2, 0), 1);
         due("41: empty", x.item(3, 2, 0), -12);
         x.sheet(3, 2, 3);
+        x.write(3, 0, 8);
         x.write(3, 2, 9);
         due("41: anew", x.sheet(3, 2, 3), 1);
+        due("41: all 0", x.item(3, 2, 0), 0);
         due("41: all 0", x.item(3, 2, 2), 0);
         x.write(3, 2, 9);
         due("41: a refusal leaves it", x.sheet(3, 2, -5), -14);
@@ -318,7 +320,13 @@ public final class HostTest {
             due("48: no trace", x.many(6), 0);
             due("49: no trace", x.trace(0), -3);
         }
+        for (int k = 1; k <= 3; k++) {
+            x.key(1, 50, 0, 0);
+        }
+        x.shelf(3, 0, 3);
+        due("48: parted by 0", x.act(3, 3, 13), -15);
         due("48: behind a break it goes on", x.act(1, 2, 13), 6);
+        due("49: its trace, too", x.trace(0), 12);
         // of the KIND and GATE that it is now
         x.remake(0, 4);
         due("48: a salt now", x.act(1, 2, 13), -3);

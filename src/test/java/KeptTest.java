@@ -29,6 +29,10 @@ public final class KeptTest {
         x.gate(4, 1, 7);
         x.ends(14);
         x.report(0, 0, 9, 49);
+        x.report(0, 0, 0, 99);
+        x.report(0, 0, 0, 99);
+        x.report(0, 0, 0, 99);
+        x.report(0, 0, 0, 99);
         x.report(2, 1, 2, 5);
         x.halt();
         x.seed(88);
@@ -53,12 +57,12 @@ public final class KeptTest {
         due("52: rules", x.many(1), 2);
         due("52: will", x.keyOf(0, 9), 0);
         due("52: will", x.keyOf(1, 9), 1);
-        due("52: reports", x.many(3), 2);
+        due("52: reports", x.many(3), 6);
         due("52: lone", x.lone(0), loneByHand());
         due("52: z", x.seed(88), 88);
     }
 
-    /** LONE KEYS by the two REPORTS of full(), counted anew: TEETH at first 9 to 49, and SHAPE 2 to 5 behind 2. */
+    /** LONE KEYS by the first and the last REPORT of full(), counted anew: TEETH at first 9 to 49, and SHAPE 2 to 5 behind 2. */
     private static int loneByHand() {
         int count = 0;
         for (int straw = 0; straw <= 9; straw++) {
@@ -91,9 +95,11 @@ public final class KeptTest {
         x.gate(1, 0, 0);
         x.gate(4, 1, 0);
         x.ends(16);
-        Check.tell(x, "key chill;");
+        Check.tell(x, "key if 1 > 2 or 3 > 4 carry; key chill;");
         x.forget();
-        x.report(0, 0, 0, 0);
+        for (int r = 0; r < 6; r++) {
+            x.report(0, 0, 0, 0);
+        }
         x.seed(5);
         x.anew();
     }
@@ -121,7 +127,9 @@ public final class KeptTest {
         x.again();
         due("52: what was kept latest", x.many(0), 6);
         due("52: what was kept latest", x.state(1), 16);
-        due("52: what was kept latest", x.many(1), 1);
+        due("52: what was kept latest", x.many(1), 2);
+        due("52: what was kept latest", x.keyOf(0, 9), 2);
+        due("52: what was kept latest", x.lone(0), 0);
     }
 
     private static void notKept() {

@@ -2,6 +2,8 @@
 public final class PlansTest {
     public static void main(String[] args) {
         best();
+        eachAlone();
+        inTheFourth();
         bestByChill();
         fewerIfOver();
         order();
@@ -50,6 +52,32 @@ public final class PlansTest {
         }
         due("25: six keys that can't", none.ways(4), 2401);
         due("24: none is told", none.ith(4, 0), 0);
+    }
+
+    /** Each call by itself on a new object, so that no other one has looked ahead of it. */
+    private static void eachAlone() {
+        due("24: ith alone", twoIrons().ith(2, 1), 2);
+        due("25: ways alone", twoIrons().ways(3), 6);
+        due("29: play alone", twoIrons().play(1), 2);
+        due("37: prove alone", twoIrons().prove(3), 3);
+    }
+
+    /** A salt that FITS only at HALT 3, the fourth of a PLAN of 4. */
+    private static void inTheFourth() {
+        IceKeys x = new IceKeys();
+        x.gate(0, 0, 1);
+        x.key(4, 26, 0, 0);
+        due("23: in three", x.best(3), 0);
+        due("23: in the fourth", x.best(4), 7);
+        due("24: in the fourth", x.ith(4, 3), 1);
+        due("26: in three", x.order(3, 1), -3);
+        due("26: in the fourth", x.order(4, 1), 1);
+        due("27: in three", x.bars(3, 1), 0);
+        due("27: in the fourth", x.bars(4, 1), -3);
+        due("28: the other one has the fourth", x.game(4), 0);
+        x.halt();
+        due("28: the first one has the third", x.game(3), 7);
+        due("29: none at first", x.play(3), 0);
     }
 
     /** A salt with TEETH 89 that is shaped 7, for WARD 8: it must be chilled first, which only SHADE above 1 does. */

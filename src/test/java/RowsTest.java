@@ -50,8 +50,12 @@ public final class RowsTest {
         due("37: none", x.prove(0), 0);
         due("37: none", x.many(4), 0);
         x.halt();
+        due("37: none", x.prove(0), 0);
+        due("37: halt stays", x.state(0), 1);
+        due("37: turned stays", x.state(4), 1);
         x.halt();
         due("37: over", x.prove(4), 0);
+        due("37: halt stays", x.state(0), 2);
     }
 
     private static void row() {

@@ -64,6 +64,11 @@ public final class RulesTest {
         text(" irons turn;", -101);
         text("iron turn;;", -110);
         text("ironturn;", -100);
+        text("ironz turn;", -100);
+        text("azure turn;", -100);
+        text("turn carry;", -100);
+        text("carry carry;", -100);
+        text("halt carry;", -100);
         text("iron carry chill;", -111);
         text("if iron carry;", -100);
         text("iron\tturn;", -104);
@@ -143,6 +148,12 @@ public final class RulesTest {
             due("13: told behind '" + b + "'", Check.tell(x, "key if (((1=2))) chill; key carry;"), 2);
             due("13: holds not behind '" + b + "'", x.keyOf(0, 9), 1);
         }
+        Check.tell(x, "key if (1=2 and ");
+        Check.tell(x, "key if 1=2 or (1=2) chill; key carry;");
+        due("13: an and that waited within", x.keyOf(0, 9), 1);
+        Check.tell(x, "key if 1=2 chill;");
+        Check.tell(x, "key carry;");
+        due("13: no condition of the text ahead of it", x.keyOf(0, 9), 1);
         due("13: no text, no rules", x.rules(), 0);
         due("13: none", x.many(1), 0);
         due("13: turn then", x.keyOf(0, 9), 0);
@@ -192,6 +203,12 @@ public final class RulesTest {
         condition("not not not 1=1", false);
         condition("1=2 or not 1=2", true);
         condition("1=2 or 1=2 or 1=1", true);
+        condition("1=1 or 1=2 or 1=2", true);
+        condition("1=2 or 1=1 or 1=2", true);
+        condition("(1=2 or 1=1) and (1=2)", false);
+        condition("(1=1 or 1=1) and (1=2) or (1=2)", false);
+        condition("(not 1=1) or (1=1)", true);
+        condition("(1=1 and 1=1) and (1=1)", true);
         condition("1=2 or 1=2 or 1=2", false);
         condition("1=1 and 1=1 and 1=2", false);
         condition("1=1 and 1=1 and 1=1", true);
@@ -230,5 +247,7 @@ public final class RulesTest {
         kind("spare turn; salt carry; third chill; sleeve carry;", 1210);
         kind("salt if 1=2 carry; key if number > 2 chill; key if number > 0 carry;", 1122);
         kind("third if number = 2 turn; key carry;", 11011);
+        kind("iron if 1=1 or 1=2 carry; key if 1=2 chill;", 10000);
+        kind("iron if 1=2 or 1=2 carry; key if 1=1 chill;", 22222);
     }
 }

@@ -141,6 +141,13 @@ public final class StrangersTest {
         x.report(0, 0, 50, 50);
         due("33: none has 50 at first", x.lone(0), 0);
         due("33: but for it all", x.liar(), 0);
+        x.report(0, 0, 60, 60);
+        due("33: two behind as many halts", x.liar(), -3);
+        x.forget();
+        x.report(3, 0, 99, 99);
+        x.report(3, 1, 0, 0);
+        x.report(3, 1, 1, 1);
+        due("33: of three no one", x.liar(), -3);
     }
 
     private static void seed() {
