@@ -51,7 +51,16 @@ final class Check {
         return x.rules();
     }
 
-    /** Five KEYS of all KINDS, as the document's issue tests have them. */
+    /** Two irons that FIT at once: the first one PAYS 6, the other one 8. */
+    static IceKeys twoIrons() {
+        IceKeys x = new IceKeys();
+        x.gate(0, 0, 5);
+        x.key(1, 20, 0, 0);
+        x.key(1, 60, 0, 0);
+        return x;
+    }
+
+    /** Five KEYS of all KINDS, as the shared tests have them. */
     static IceKeys five() {
         IceKeys x = new IceKeys();
         x.gate(0, 0, 4);

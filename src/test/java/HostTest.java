@@ -101,10 +101,7 @@ public final class HostTest {
 
     /** Two irons that FIT, and a SHEET with ACTS. */
     private static IceKeys withSheet(int... acts) {
-        IceKeys x = new IceKeys();
-        x.gate(0, 0, 5);
-        x.key(1, 20, 0, 0);
-        x.key(1, 60, 0, 0);
+        IceKeys x = Check.twoIrons();
         x.sheet(0, 0, acts.length);
         for (int i = 0; i < acts.length; i++) {
             x.write(0, i, acts[i]);

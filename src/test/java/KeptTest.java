@@ -97,7 +97,7 @@ public final class KeptTest {
         x.ends(16);
         Check.tell(x, "key if 1 > 2 or 3 > 4 carry; key chill;");
         x.forget();
-        for (int r = 0; r < 6; r++) {
+        for (int r = 0; r < 5; r++) {
             x.report(0, 0, 0, 0);
         }
         x.seed(5);

@@ -20,17 +20,8 @@ public final class PlansTest {
         Check.due(call, got, want);
     }
 
-    /** Two irons that FIT at once: the first one PAYS 6, the other one 8. */
-    private static IceKeys twoIrons() {
-        IceKeys x = new IceKeys();
-        x.gate(0, 0, 5);
-        x.key(1, 20, 0, 0);
-        x.key(1, 60, 0, 0);
-        return x;
-    }
-
     private static void best() {
-        IceKeys x = twoIrons();
+        IceKeys x = Check.twoIrons();
         int[] worth = {0, 9, 17, 19, 21};
         int[] ways = {1, 1, 2, 6, 18};
         int[][] first = {{}, {2}, {1, 2}, {1, 2, 0}, {1, 2, 0, 0}};
@@ -56,10 +47,10 @@ public final class PlansTest {
 
     /** Each call by itself on a new object, so that no other one has looked ahead of it. */
     private static void eachAlone() {
-        due("24: ith alone", twoIrons().ith(2, 1), 2);
-        due("25: ways alone", twoIrons().ways(3), 6);
-        due("29: play alone", twoIrons().play(1), 2);
-        due("37: prove alone", twoIrons().prove(3), 3);
+        due("24: ith alone", Check.twoIrons().ith(2, 1), 2);
+        due("25: ways alone", Check.twoIrons().ways(3), 6);
+        due("29: play alone", Check.twoIrons().play(1), 2);
+        due("37: prove alone", Check.twoIrons().prove(3), 3);
     }
 
     /** A salt that FITS only at HALT 3, the fourth of a PLAN of 4. */
@@ -101,7 +92,7 @@ public final class PlansTest {
     }
 
     private static void fewerIfOver() {
-        IceKeys x = twoIrons();
+        IceKeys x = Check.twoIrons();
         x.ends(2);
         due("23: fewer", x.best(4), 17);
         due("24: fewer", x.ith(4, 1), 2);
@@ -128,7 +119,7 @@ public final class PlansTest {
     }
 
     private static void order() {
-        IceKeys x = twoIrons();
+        IceKeys x = Check.twoIrons();
         x.key(4, 50, 0, 1);
         due("26: no keys", x.order(0, 0), 0);
         due("26: no keys", x.order(4, 0), 0);
@@ -161,6 +152,14 @@ public final class PlansTest {
         due("24: nothing", x.ith(3, 1), 0);
         due("24: turned", x.ith(3, 2), 1);
         due("25: or it is told ahead of it", x.ways(3), 4);
+        // to be told ahead of it would chill it
+        for (int h = 0; h < 3; h++) {
+            x.sun(h, 6);
+        }
+        Check.tell(x, "salt if halt < 2 chill;");
+        due("26: it must wait", x.order(3, 1), 1);
+        due("27: it must wait", x.bars(3, 1), -3);
+        due("28: the other one chills", x.game(3), 1);
         // chills are ACTS that aren't 0, too
         IceKeys chilled = new IceKeys();
         chilled.gate(0, 0, 8);
@@ -177,7 +176,7 @@ public final class PlansTest {
     }
 
     private static void bars() {
-        IceKeys x = twoIrons();
+        IceKeys x = Check.twoIrons();
         x.key(4, 50, 0, 1);
         x.key(4, 50, 0, 1);
         due("27: each by itself", x.bars(1, 3), -3);
@@ -192,7 +191,7 @@ public final class PlansTest {
     }
 
     private static void game() {
-        IceKeys x = twoIrons();
+        IceKeys x = Check.twoIrons();
         int[] value = {0, 9, 10, 18, 20};
         int[] play = {0, 2, 2, 1, 1};
         for (int n = 1; n <= 4; n++) {
@@ -228,7 +227,7 @@ public final class PlansTest {
     }
 
     private static void wrongNumbers() {
-        IceKeys x = twoIrons();
+        IceKeys x = Check.twoIrons();
         for (int n : new int[] {-1, 5, Integer.MAX_VALUE, Integer.MIN_VALUE}) {
             due("23: best(" + n + ")", x.best(n), -1);
             due("24: ith(" + n + ", 0)", x.ith(n, 0), -1);

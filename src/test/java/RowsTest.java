@@ -13,14 +13,6 @@ public final class RowsTest {
         Check.due(call, got, want);
     }
 
-    private static IceKeys twoIrons() {
-        IceKeys x = new IceKeys();
-        x.gate(0, 0, 5);
-        x.key(1, 20, 0, 0);
-        x.key(1, 60, 0, 0);
-        return x;
-    }
-
     private static void rows(IceKeys x, int[][] want) {
         due("37: many", x.many(4), want.length);
         for (int k = 0; k < want.length; k++) {
@@ -31,7 +23,7 @@ public final class RowsTest {
     }
 
     private static void prove() {
-        IceKeys x = twoIrons();
+        IceKeys x = Check.twoIrons();
         due("37: below", x.prove(-1), -1);
         due("37: above", x.prove(5), -1);
         due("37: no rows yet", x.many(4), 0);
@@ -59,7 +51,7 @@ public final class RowsTest {
     }
 
     private static void row() {
-        IceKeys x = twoIrons();
+        IceKeys x = Check.twoIrons();
         due("38: none", x.row(0, 0), -9);
         x.prove(2);
         due("38: below", x.row(-1, 0), -9);
@@ -73,7 +65,7 @@ public final class RowsTest {
     }
 
     private static void alterRow() {
-        IceKeys x = twoIrons();
+        IceKeys x = Check.twoIrons();
         due("39: none", x.alterRow(0, 0, 5), -9);
         x.prove(2);
         due("39: what it was", x.alterRow(1, 1, Integer.MIN_VALUE), 10);
@@ -87,7 +79,7 @@ public final class RowsTest {
     }
 
     private static void judge() {
-        IceKeys x = twoIrons();
+        IceKeys x = Check.twoIrons();
         due("40: no rows", x.judge(), 0);
         x.prove(4);
         due("40: all is right", x.judge(), 0);
@@ -122,7 +114,7 @@ public final class RowsTest {
     }
 
     private static void judgeFromHowItIsNow() {
-        IceKeys x = twoIrons();
+        IceKeys x = Check.twoIrons();
         x.prove(2);
         x.halt();
         due("40: the first is turned now", x.judge(), 1);

@@ -4,6 +4,7 @@ public final class RulesTest {
         feed();
         texts();
         manyRules();
+        endsWhereItEnds();
         faultsChangeNothing();
         facts();
         joins();
@@ -127,6 +128,21 @@ public final class RulesTest {
         // as long as THE TAPE: 200 bytes of one RULE
         String ones = "1<2or".repeat(37);
         text("key if " + ones + "1<2turn;", 1);
+    }
+
+    /** What an earlier, longer text has left behind the end must not be read. */
+    private static void endsWhereItEnds() {
+        IceKeys x = new IceKeys();
+        due("13: a name", Check.tell(x, "ironsandmore"), -100);
+        due("13: a shorter name", Check.tell(x, "iron"), -104);
+        due("13: a number", Check.tell(x, "iron if 1 < 23456789"), -112);
+        due("13: a shorter number", Check.tell(x, "iron if 1 < 2"), -113);
+        due("13: blanks", Check.tell(x, "iron turn;      "), 1);
+        due("13: none behind it", Check.tell(x, "iron turn;"), 1);
+        text(" ".repeat(196) + "iron", -300);
+        text(" ".repeat(199) + "5", -299);
+        text(" ".repeat(199) + "x", -299);
+        text(" ".repeat(190) + "iron turn;", 1);
     }
 
     private static void faultsChangeNothing() {

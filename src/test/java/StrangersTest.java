@@ -161,10 +161,7 @@ public final class StrangersTest {
 
     /** ACTS by LOT from z = 1 with two KEYS are 2, 0, 0, 0, 0, 1. */
     private static void lot() {
-        IceKeys x = new IceKeys();
-        x.gate(0, 0, 5);
-        x.key(1, 20, 0, 0);
-        x.key(1, 60, 0, 0);
+        IceKeys x = Check.twoIrons();
         due("35: the other one", x.lot(), 9);
         due("35: turned", x.state(4), 2);
         due("35: none", x.lot(), 1);
