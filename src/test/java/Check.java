@@ -1,4 +1,5 @@
 import java.nio.charset.StandardCharsets;
+import java.util.function.IntUnaryOperator;
 
 /** What the tests share: it prints every call whose answer is not the one that is due. */
 final class Check {
@@ -18,6 +19,17 @@ final class Check {
 
     static void holds(String what, boolean is) {
         due(what, is ? 1 : 0, 1);
+    }
+
+    /** The last value that is taken and the first that isn't, on both sides: f makes its own object. */
+    static void edges(String call, int least, int most, int refusal, IntUnaryOperator f) {
+        for (int v : new int[] {Integer.MIN_VALUE, least - 1, most + 1, Integer.MAX_VALUE}) {
+            due(call + " with " + v, f.applyAsInt(v), refusal);
+        }
+        for (int v = least; v <= most; v++) {
+            int got = f.applyAsInt(v);
+            holds(call + " takes " + v + ", answered " + got, got != refusal);
+        }
     }
 
     /** Ends the test: exit code 1 if an answer was not the one that is due. */
@@ -51,6 +63,13 @@ final class Check {
         return x.rules();
     }
 
+    /** A HALT goes by with this ACT: what it was WORTH. SHEET 3 is used for it. */
+    static int tellKey(IceKeys x, int act) {
+        x.sheet(3, 0, 1);
+        x.write(3, 0, act);
+        return x.goAll(3, 0, 1);
+    }
+
     /** Two irons that FIT at once: the first one PAYS 6, the other one 8. */
     static IceKeys twoIrons() {
         IceKeys x = new IceKeys();
@@ -71,6 +90,37 @@ final class Check {
         x.key(4, 75, 2, 2);
         x.key(5, 90, 9, 0);
         x.key(3, 44, 5, 3);
+        return x;
+    }
+
+    /** Something of everything: five KEYS, a RULE, REPORTS, ROWS, THE TAPE, SHEETS, SHELVES, THE TRACE; and it is kept. */
+    static IceKeys rich() {
+        IceKeys x = five();
+        tell(x, "iron if teeth < 9 carry; third chill;");
+        x.report(3, 0, 20, 99);
+        x.report(0, 1, 2, 8);
+        x.seed(77);
+        x.sun(2, 14);
+        x.keep();
+        x.halt();
+        x.lot();
+        x.change(4, 1, 55);
+        x.ends(10);
+        x.report(1, 0, 5, 60);
+        tell(x, "key if halt = 2 carry; salt chill; iron turn;");
+        x.prove(3);
+        x.alterRow(1, 1, -5);
+        feed(x, "key chill; sleeve car");
+        x.sheet(0, 0, 5);
+        x.write(0, 1, 2);
+        x.write(0, 4, 9);
+        x.sheet(1, 3, 3);
+        x.write(1, 2, 70000);
+        x.sheet(2, 4, 0);
+        x.shelf(0, 0, 4);
+        x.shelf(1, 1, 1);
+        x.shelf(2, 0, 1);
+        x.act(0, 3, 12);
         return x;
     }
 }
