@@ -11,7 +11,8 @@ public final class IceKeys {
     private static final int MOST_PLAN = 4, PLACES = 4, ITEMS = 40, MOST_ITEMS_READ = 20, TAPE = 200, TRACE = 30;
     private static final int LONE_KEYS = 500;
 
-    private static final int TURN = 0, CARRY = 1, CHILL = 2;
+    /** WILLS; 1 is to carry, which is nothing. */
+    private static final int TURN = 0, CHILL = 2;
     private static final int KIND_OF_ALL = 0;
     /** For each KIND the one that it is under. */
     private static final int[] ABOVE = {-1, 0, 0, 2, 0, 4};
@@ -1641,6 +1642,7 @@ public final class IceKeys {
             return Math.max(0, 2 * super.melts(heat, shade, halt) - shade);
         }
 
+        /** A key's SHAPE is told again here: to ask for it would make calls nine deep. */
         int shape(int teeth, int straw, int number) {
             return teeth / 10 + teeth / 50;
         }

@@ -121,6 +121,9 @@ final class Check {
         x.shelf(1, 1, 1);
         x.shelf(2, 0, 1);
         x.act(0, 3, 12);
+        // the fort is no more as it was when PLANS were sought
+        x.change(1, 1, 41);
+        x.change(3, 4, 1);
         return x;
     }
 }

@@ -15,6 +15,7 @@ public final class FortBoundsTest {
         keys();
         gatesAndSuns();
         endsAndStates();
+        theLastCall();
         Check.end("FortBoundsTest");
     }
 
@@ -883,5 +884,19 @@ public final class FortBoundsTest {
             x.change(k, 1, 0);
         }
         due("11: TEETH of all, 0", x.state(6), 0);
+    }
+
+    /** An object is used for at most 512 calls: the last of these is answered as ever. */
+    private static void theLastCall() {
+        IceKeys x = Check.twoIrons();
+        for (int call = 4; call <= 510; call++) {
+            if (call % 2 == 0) {
+                x.change(0, 1, call % 100);
+            } else {
+                x.change(1, 2, call % 10);
+            }
+        }
+        due("the 511th call", x.keyOf(0, 1), 10);
+        due("the 512th call", x.best(4), 20);
     }
 }

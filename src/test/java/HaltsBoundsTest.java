@@ -67,6 +67,11 @@ public final class HaltsBoundsTest {
         due("T3: one that would chill isn't told", x.halt(), 9);
         due("T3: nor chilled", x.keyOf(1, 1), 40);
         due("T3: KEY 2", x.state(4), 4);
+        x.anew();
+        Check.tell(x, "key chill;");
+        x.change(0, 4, 0);
+        due("T3: none MAY turn, none is told", x.halt(), 0);
+        due("T3: KEY 0 isn't chilled", x.keyOf(0, 1), 20);
         // all HALTS yet: from HALT to END
         IceKeys y = iron(40);
         goTo(y, 11);

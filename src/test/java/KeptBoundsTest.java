@@ -5,7 +5,7 @@ import java.util.function.Consumer;
 public final class KeptBoundsTest {
     /** Each changes one thing that is kept. */
     private static final List<Consumer<IceKeys>> KEPT = List.of(x -> x.key(1, 9, 9, 0), x -> x.change(0, 1, 99),
-        x -> x.change(1, 2, 0), x -> x.change(2, 3, 5), x -> x.change(3, 4, 1), x -> x.change(0, 4, 0), x -> x.remake(4, 2),
+        x -> x.change(1, 2, 0), x -> x.change(2, 3, 5), x -> x.change(2, 4, 1), x -> x.change(0, 4, 0), x -> x.remake(4, 2),
         x -> x.sun(0, 15), x -> x.sun(15, 0), x -> x.gate(0, 0, 9), x -> x.gate(5, 1, 9), x -> x.ends(16), x -> x.anew(),
         x -> x.halt(), x -> x.lot(), x -> x.seed(-9), x -> x.forget(), x -> x.report(15, 0, 0, 1), x -> x.goAll(0, 0, 2),
         x -> anotherReport(x));

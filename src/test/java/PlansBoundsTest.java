@@ -46,6 +46,30 @@ public final class PlansBoundsTest {
         return x;
     }
 
+    /** A salt of SHAPE 6 for WARD 8 in SHADE without HEAT: two chills, then it can be turned. */
+    private static IceKeys chilled() {
+        IceKeys x = new IceKeys();
+        x.gate(0, 0, 8);
+        x.key(4, 82, 0, 0);
+        for (int h = 0; h < 4; h++) {
+            x.sun(h, 2);
+        }
+        Check.tell(x, "salt if teeth < 96 chill;");
+        return x;
+    }
+
+    /** A salt that FITS WARD 1 from HALT 2 on, if it isn't chilled till then, as whoever tells it does. */
+    private static IceKeys mustWait() {
+        IceKeys x = new IceKeys();
+        x.gate(0, 0, 1);
+        x.key(4, 25, 0, 0);
+        for (int h = 0; h < 3; h++) {
+            x.sun(h, 6);
+        }
+        Check.tell(x, "salt if halt < 2 chill;");
+        return x;
+    }
+
     // DOC T3: A PLAN of n: n HALTS (fewer, if it is OVER), ahead of each an ACT: 0 none is told, or 1 more than the number of the KEY that is.
     private static void plan() {
         // as many PLANS as there are rows of ACTS 0 to the number of KEYS, if none changes anything
@@ -79,6 +103,15 @@ public final class PlansBoundsTest {
         x.halt();
         due("T3: SCORE counts nothing", x.best(1), 10);
         due("T3: HALTS that went by count nothing", x.best(0), 0);
+        // a chill is WORTH 1: 1, 1, then 9 and 1
+        int[] chills = {0, 1, 2, 12, 13};
+        for (int n = 0; n <= 4; n++) {
+            due("T3: chills, then turned, by " + n, chilled().best(n), chills[n]);
+        }
+        due("T3: chilled first", chilled().ith(3, 0), 1);
+        due("T3: chilled twice", chilled().ith(3, 1), 1);
+        due("T3: then turned", chilled().ith(3, 2), 1);
+        due("T3: no other way", chilled().ways(3), 1);
     }
 
     // DOC T3: BEST: those with most WORTH; the FIRST of these is that with the lesser ACT where they are unlike first.
@@ -127,6 +160,12 @@ public final class PlansBoundsTest {
         IceKeys late = onlyAt(3);
         due("T3: by 3", late.order(3, 1), -3);
         due("T3: by 4", late.order(4, 1), 1);
+        // chills are ACTS, too
+        due("T3: two chills", chilled().order(2, 1), -3);
+        due("T3: two chills, then turned", chilled().order(3, 1), 3);
+        due("T3: as few by 4", chilled().order(4, 1), 3);
+        due("T3: it must wait", mustWait().order(2, 1), -3);
+        due("T3: it waits, then is turned", mustWait().order(3, 1), 1);
     }
 
     // DOC T3: BAR: the least of them that is so behind no PLAN of n.
@@ -149,6 +188,10 @@ public final class PlansBoundsTest {
         IceKeys late = onlyAt(3);
         due("T3: by 3", late.bars(3, 1), 0);
         due("T3: by 4", late.bars(4, 1), -3);
+        due("T3: two chills", chilled().bars(2, 1), 0);
+        due("T3: two chills, then turned", chilled().bars(3, 1), -3);
+        due("T3: it must wait", mustWait().bars(2, 1), 0);
+        due("T3: it waits, then is turned", mustWait().bars(3, 1), -3);
     }
 
     // DOC T3: GAME of n: two in turn, ahead of n HALTS (till it is OVER) each an ACT (also 0); the first one wants as much WORTH as can be, the other one as little.

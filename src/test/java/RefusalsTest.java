@@ -371,12 +371,15 @@ public final class RefusalsTest {
         }
         // prove() changes ROWS alone, act() THE TRACE alone
         IceKeys x = Check.rich();
-        x.prove(1);
+        IceKeys was = Check.rich();
+        x.prove(0);
         x.prove(3);
-        x.alterRow(1, 1, -5);
+        for (int i = 0; i < 9; i++) {
+            x.alterRow(i / 3, i % 3, was.row(i / 3, i % 3));
+        }
         x.act(2, 1, 5);
         x.act(0, 3, 12);
-        Look.same("37, 48: nothing else", x, Check.rich());
+        Look.same("37, 48: nothing else", x, was);
     }
 
     // DOC T0: Sets are told by bits.

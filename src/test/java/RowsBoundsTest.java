@@ -99,6 +99,12 @@ public final class RowsBoundsTest {
         due("37: OVER", x.prove(4), 0);
         due("37: none", x.many(4), 0);
         due("37: no KEYS", new IceKeys().prove(4), 4);
+        // the fort is as it is now, not as it was at an earlier prove()
+        IceKeys y = proven(4);
+        y.halt();
+        due("37: of none", y.prove(0), 0);
+        due("37: HALT is as it is now", y.state(0), 1);
+        due("37: TURNED are as they are now", y.state(4), 1);
     }
 
     // DOC 38: Of ROW k: what = 0 ACT, 1 WORTH, 2 those TURNED. -9: there is none such, another what.
@@ -168,6 +174,11 @@ public final class RowsBoundsTest {
                 }
             }
         }
+        IceKeys now = proven(4);
+        now.halt();
+        due("40: from how it is now", now.judge(), 1);
+        due("40: HALT is as it is now", now.state(0), 1);
+        due("40: TURNED are as they are now", now.state(4), 1);
         IceKeys x = proven(4);
         x.alterRow(3, 1, 0);
         due("40: the last", x.judge(), 4);

@@ -148,6 +148,11 @@ public final class RulesBoundsTest {
             holds(x + " and " + y + " and " + z, a && b && c);
             holds("(" + x + " or " + y + ") and " + z, (a || b) && c);
             holds(x + " and (" + y + " or " + z + ")", a && (b || c));
+            holds("(" + x + " or " + y + ") and (" + z + ")", (a || b) && c);
+            holds("(" + x + " or " + y + ") or (" + z + ")", a || b || c);
+            holds("(" + x + " and " + y + ") or (" + z + ")", a && b || c);
+            holds("(" + x + " and " + y + ") and (" + z + ")", a && b && c);
+            holds("(" + x + ") and (" + y + ") or not (" + z + ")", a && b || !c);
         }
         fault("iron if or 1<2 turn;", 8);
         fault("iron if and 1<2 turn;", 8);
@@ -432,6 +437,16 @@ public final class RulesBoundsTest {
         Check.tell(x, "iron turn;");
         due("T2: the end of a shorter text", Check.tell(x, "iron tur"), -105);
         due("T2: the end of a shorter text", Check.tell(x, "iron turn"), -109);
+        Check.tell(x, "iron if 1 < 23456789");
+        due("T2: the end of a shorter NUMBER", Check.tell(x, "iron if 1 < 2"), -113);
+        Check.tell(x, "ironsandmore");
+        due("T2: the end of a shorter NAME", Check.tell(x, "iron"), -104);
+        Check.tell(x, "          ");
+        due("T2: no blanks behind it", Check.tell(x, "iron"), -104);
+        // at the end of 200 bytes there is nothing more to look at
+        fault(" ".repeat(199) + "5", 199);
+        fault(" ".repeat(199) + "k", 199);
+        fault(" ".repeat(192) + "iron if5", 200);
     }
 
     // DOC 12: n bytes (1 to 8) come to THE TAPE, the lowest of eight first: how many it has. BAD; FULL: more than 200.
@@ -498,5 +513,33 @@ public final class RulesBoundsTest {
         due("13: the eighth tells", x.keyOf(0, 9), 1);
         due("13: fewer again", Check.tell(x, "salt chill;"), 1);
         due("13: none of the eight any more", x.keyOf(0, 9), 0);
+        afterAnother();
+    }
+
+    /** Nothing of a text, with a FAULT or without, comes into the next. */
+    private static void afterAnother() {
+        String[] ahead = {"key if 2<1 chill;", "key if 1<2 chill; key if 2<1 or 1<2 carry;", "key if not ", "key if not (", "key if (",
+            "key if ((( ", "key if not (not (not (", "key if 2<1 and ", "key if (2<1 and (2<1 and (2<1 and ", "key if 1<2 or ",
+            "key if (1<2 or (1<2 or (1<2 or ", "key if (1<2", "key if 1", "key if 1<"};
+        String[] next = {"key chill;", "key if 1<2 chill; key carry;", "key if (((1<2))) chill; key carry;",
+            "key if 2<1 chill; key if 1<2 chill;", "key if 2<1 carry; key chill;", "key if (((2<1))) carry; key chill;",
+            "key if 2<1 or (2<1 or (2<1 or (2<1))) carry; key chill;", "key if not (1<2) carry; key chill;"};
+        for (String first : ahead) {
+            IceKeys x = new IceKeys();
+            x.key(1, 50, 0, 0);
+            for (String second : next) {
+                Check.tell(x, first);
+                due("13: '" + second + "' behind '" + first + "'", Check.tell(x, second) > 0 ? 1 : 0, 1);
+                due("13: WILL by '" + second + "' behind '" + first + "'", x.keyOf(0, 9), 2);
+            }
+        }
+        // as often as one likes
+        IceKeys x = new IceKeys();
+        x.key(1, 50, 0, 0);
+        String longest = "key if " + "2<1or ".repeat(30) + "1<2chill;";
+        for (int i = 0; i < 9; i++) {
+            due("13: a long text", Check.tell(x, longest), 1);
+            due("13: its WILL", x.keyOf(0, 9), 2);
+        }
     }
 }

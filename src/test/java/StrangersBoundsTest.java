@@ -355,6 +355,18 @@ public final class StrangersBoundsTest {
         x.ends(6);
         due("36: 21 or more", x.times(1, 21), 1);
         due("36: 22 or more", x.times(1, 22), 0);
+        // sixteen HALTS, six KEYS that are TURNED: whatever the ACTS are, each HALT is WORTH 6
+        IceKeys six = new IceKeys();
+        for (int k = 0; k < 6; k++) {
+            six.key(1, 99, 0, 0);
+            six.change(k, 4, 1);
+        }
+        six.ends(16);
+        due("36: 96 or more", six.times(40, 96), 40);
+        due("36: 97 or more", six.times(40, 97), 0);
+        six.ends(1);
+        due("36: one HALT, 6 or more", six.times(40, 6), 40);
+        due("36: one HALT, 7 or more", six.times(40, 7), 0);
         x.halt();
         x.ends(1);
         due("36: OVER, 0 or more", x.times(40, 0), 40);
