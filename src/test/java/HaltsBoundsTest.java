@@ -325,6 +325,22 @@ public final class HaltsBoundsTest {
         hot.gate(0, 0, 6);
         hot.key(4, 80, 0, 0);
         due("17: the most STRAW", hot.strawFor(0), 9);
+        // 0 to 9: a sleeve by HEAT 3 has TEETH in six HALTS in STRAW 6 to 9, and would in seven in STRAW 12
+        IceKeys sleeve = new IceKeys();
+        for (int h = 0; h < 12; h++) {
+            sleeve.sun(h, 12);
+        }
+        sleeve.gate(0, 0, 9);
+        sleeve.gate(0, 1, 4);
+        sleeve.key(2, 99, 0, 0);
+        due("17: STRAW is 9 at most", sleeve.strawFor(0), 6);
+        // all HALTS yet: TEETH 16 last for HALTS 0 to 14, in STRAW 3 for HALT 15, too
+        IceKeys last = salt(16);
+        last.gate(0, 0, 1);
+        last.ends(16);
+        due("17: sixteen HALTS", last.strawFor(0), 3);
+        last.ends(15);
+        due("17: fifteen HALTS", last.strawFor(0), 0);
         // a third for WARD 0 by SHAPE 2 wants a fourth of STRAW to be 2
         IceKeys third = new IceKeys();
         third.key(3, 20, 0, 0);
@@ -348,6 +364,15 @@ public final class HaltsBoundsTest {
             due("18: of several the least, GATE " + f, x.gateFor(0), f);
         }
         due("18: GATE is as it was", x.keyOf(0, 3), 3);
+        // all HALTS yet: at the GATE of another that isn't TURNED TEETH 16 last for HALT 15, too
+        IceKeys last = salt(16);
+        last.gate(0, 0, 1);
+        last.gate(4, 0, 1);
+        last.key(1, 9, 0, 4);
+        last.ends(16);
+        due("18: sixteen HALTS", last.gateFor(0), 4);
+        last.ends(15);
+        due("18: fifteen HALTS", last.gateFor(0), 0);
         x.ends(1);
         x.halt();
         due("18: OVER, all alike", x.gateFor(0), 0);
